@@ -435,8 +435,8 @@ public final class ReactiveSheet {
         /** Two that only lead on: past a choice's second part, if its first is 0; from there past its third. */
         static final int UNLESS = 16, SKIP = 17;
 
-        /** A text of 120 bytes has fewer: four bytes of a choice, "1?1:", make five nodes. */
-        static final int NODES = 192;
+        /** A text of 120 bytes has fewer: what makes the most of them is "1?1:", five nodes of four bytes. */
+        static final int NODES = 160;
 
         private final int root;
         private final int[] kinds;
