@@ -164,7 +164,7 @@ public final class ReactiveSheet {
     }
 
     public int order(int i) {
-        return i < 0 ? NONE : engine.now().inOrder(i);
+        return engine.now().inOrder(i);
     }
 
     public int why(int cell, int i) {
@@ -618,9 +618,15 @@ public final class ReactiveSheet {
             int over = node(Formula.SKIP, 0, 0, 0);
             int third = choice(deep, tails + 1);
             int choice = node(Formula.CHOICE, first, second, third);
-            seconds[unless] = over + 1;
-            firsts[over] = choice;
+            lead(seconds, unless, over + 1);
+            lead(firsts, over, choice);
             return choice;
+        }
+
+        private static void lead(int[] row, int node, int to) {
+            if (node >= 0 && node < row.length) {
+                row[node] = to;
+            }
         }
 
         /** C. */
@@ -715,7 +721,7 @@ public final class ReactiveSheet {
             int from = nodes;
             int inner = factor(deep);
             int not = node(Formula.NOT, inner, 0, 0);
-            for (int node = from; node < not; node++) {
+            for (int node = from; node < not && node < Formula.NODES; node++) {
                 if (rescues[node] < 0) {
                     rescues[node] = not;
                 }
@@ -895,11 +901,14 @@ public final class ReactiveSheet {
             System.arraycopy(other.runs, 0, runs, 0, CELLS);
             System.arraycopy(other.heights, 0, heights, 0, CELLS);
             System.arraycopy(other.causes, 0, causes, 0, CELLS);
-            System.arraycopy(other.reads, 0, reads, 0, CELLS * CELLS);
             System.arraycopy(other.readCounts, 0, readCounts, 0, CELLS);
             System.arraycopy(other.readBits, 0, readBits, 0, CELLS);
             for (int cell = 0; cell < CELLS; cell++) {
                 formulas[cell] = other.formulas[cell];
+                int count = other.readCount(cell);
+                if (count > 0 && count <= CELLS) {
+                    System.arraycopy(other.reads, cell * CELLS, reads, cell * CELLS, count);
+                }
             }
             changed = other.changed;
             ran = other.ran;
@@ -1050,7 +1059,9 @@ public final class ReactiveSheet {
 
         long below(int cell) {
             long bits = readersOf(cell);
-            for (int round = 0; round < CELLS; round++) {
+            long earlier = 0;
+            for (int round = 0; round < CELLS && bits != earlier; round++) {
+                earlier = bits;
                 for (int other = 0; other < CELLS; other++) {
                     if ((readBits[other] & bits) != 0) {
                         bits |= bit(other);
@@ -1061,6 +1072,9 @@ public final class ReactiveSheet {
         }
 
         int inOrder(int i) {
+            if (i < 0 || i >= present()) {
+                return NONE;
+            }
             int ahead = 0;
             for (int height = 0; height <= CELLS; height++) {
                 for (int cell = 0; cell < CELLS; cell++) {

@@ -221,7 +221,11 @@ public final class FormulaTest {
         error("-#1", 0);
         error("0-#2", 1);
         error("#2/#3", 1);
+        error("#2/2", 0);
+        error("5/#3", 0);
         error("#2*#3", 1);
+        error("#3*#3", 0);
+        error("#4*#2", 0);
         error("#3*#2", 1);
         error("#1*#3", 0);
         error("#1*2", 1);

@@ -17,6 +17,8 @@ public final class ListTest {
         image();
         undo();
         undoWaves();
+        undoLog();
+        undoHeights();
         check.end();
     }
 
@@ -179,6 +181,7 @@ public final class ListTest {
         check.due("35: n 0", sheet.pour(0, 0, 3, 0), 0);
         check.due("35: is a wave", sheet.told(5), 5);
         check.due("35: that tells none", sheet.past(0, 0), 0);
+        check.due("35: n 0 needs no place", sheet.pour(0, 5, 3, 0), 0);
         check.due("35: to the last cell", sheet.pour(0, 4, 31, 1), 0);
         check.due("35: value(31)", sheet.value(31), 104);
         sheet.set(0, 0, NO);
@@ -293,5 +296,59 @@ public final class ListTest {
         check.due("37: the next wave", sheet.input(0, 5), 0);
         check.due("37: is a change", sheet.told(3), 1);
         check.due("37: told(5)", sheet.told(5), 3);
+    }
+
+    /** Also what had gone out of the log since is back. */
+    private static void undoLog() {
+        ReactiveSheet sheet = new ReactiveSheet();
+        sheet.watch(0, 0, 0);
+        for (int i = 0; i < 65; i++) {
+            sheet.input(0, i);
+        }
+        sheet.drop(0);
+        sheet.input(0, 70);
+        sheet.image();
+        sheet.watch(1, 0, 0);
+        for (int i = 0; i < 100; i++) {
+            sheet.input(1, i);
+        }
+        check.due("37: the log is another", sheet.log(0, 0), 1);
+        check.due("37: undo()", sheet.undo(), 1);
+        check.due("37: told(7)", sheet.told(7), 60);
+        for (int i = 0; i < 60; i++) {
+            check.due("37: log(" + i + ", 0)", sheet.log(i, 0), 0);
+            check.due("37: log(" + i + ", 1)", sheet.log(i, 1), i == 59 ? 3 : 0);
+            check.due("37: log(" + i + ", 2)", sheet.log(i, 2), i == 58 ? 3 : 0);
+            check.due("37: logged(" + i + ", 0)", sheet.logged(i, 0), i == 59 ? NO : i + 6);
+            check.due("37: logged(" + i + ", 1)", sheet.logged(i, 1), i == 59 ? 70 : i == 58 ? NO : i + 7);
+        }
+    }
+
+    private static void undoHeights() {
+        ReactiveSheet sheet = new ReactiveSheet();
+        sheet.input(0, 2);
+        Check.define(sheet, 1, "#0");
+        Check.define(sheet, 2, "#1");
+        Check.define(sheet, 3, "#1+#2");
+        sheet.input(0, 1);
+        sheet.image();
+        Check.define(sheet, 3, "7");
+        sheet.drop(1);
+        sheet.drop(2);
+        sheet.input(9, 9);
+        check.due("37: nothing ran", sheet.told(2), 0);
+        check.due("37: undo()", sheet.undo(), 4);
+        check.due("37: told(2)", sheet.told(2), 3);
+        check.due("37: told(3)", sheet.told(3), 4);
+        check.due("37: told(4)", sheet.told(4), 6);
+        check.due("37: told(12)", sheet.told(12), 3);
+        check.due("37: of(2, 2)", sheet.of(2, 2), 2);
+        check.due("37: readers(1)", sheet.readers(1), 0b1100);
+        check.due("37: reads(3)", Check.reads(sheet, 3), "1 2");
+        check.due("37: of(3, 8)", sheet.of(3, 8), 1);
+        check.due("37: why(3, 1)", sheet.why(3, 1), 0);
+        check.due("37: order(3)", sheet.order(3), 3);
+        check.due("37: the next wave", sheet.input(0, 5), 3);
+        check.due("37: value(3)", sheet.value(3), 10);
     }
 }
